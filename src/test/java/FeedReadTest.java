@@ -68,6 +68,26 @@ public final class FeedReadTest {
         Bench.due("read again", bench.read(1, "{\"a\":[{}]}"), 4);
         Bench.due("wrong", twin.wrong(), -1);
         Bench.due("read part of the fed", readPart(), 2);
+        checkNothingIsLeft();
+    }
+
+    /** A TEXT has nothing of the one that was there before. */
+    private static void checkNothingIsLeft() {
+        Bench bench = Bench.of("[-1.5,{\"b\":[1]}]");
+        Bench.due("read", bench.read(0, "[0,null,\"\",true]"), 5);
+        for (int v = 1; v < 5; v++) {
+            Bench.due("how many of " + v, bench.twin.value(0, v, 3), 0);
+            Bench.due("EXPONENT of " + v, bench.twin.value(0, v, 4), 0);
+            Bench.due("sign of " + v, bench.twin.value(0, v, 5), 0);
+            Bench.due("first of " + v, bench.twin.value(0, v, 6), -1);
+        }
+        Bench.due("read an OBJECT", bench.read(0, "{\"b\":2,\"a\":1}"), 5);
+        Bench.due("WRITTEN", bench.write(0, 0), "{\"a\":1,\"b\":2}");
+        Bench large = Bench.of("\"" + "a".repeat(4000) + "\"");
+        large.read(0, "\"" + "b".repeat(4000) + "\"");
+        Bench.due("read a third", large.read(0, "\"" + "c".repeat(300) + "\""), 1);
+        Bench.due("characters of the third", large.twin.value(0, 0, 3), 300);
+        Bench.due("the last one", large.twin.letter(0, 0, 299), (int) 'c');
     }
 
     private static int readPart() {

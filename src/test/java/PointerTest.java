@@ -114,6 +114,9 @@ public final class PointerTest {
         bench.feed("/a/b");
         Bench.due("the first two", bench.twin.pointer(0, 2), 2);
         Bench.due("fed is gone", bench.twin.count(2), 0);
+        Bench tilde = Bench.of("{\"~\":1}");
+        tilde.feed("/~0");
+        Bench.due("~ at the end", tilde.twin.pointer(0, 2), -1);
         bench.feed("/b");
         Bench.due("none", bench.twin.pointer(0, 2), -1);
         Bench.due("fed is gone", bench.twin.count(2), 0);

@@ -37,7 +37,7 @@ public final class SameCompareTest {
         same("{\"a\":null}", "{\"b\":null}", false);
         same("[".repeat(40) + "1" + "]".repeat(40), "[ ".repeat(40) + "1.0" + "]".repeat(40), true);
         same("[".repeat(40) + "1" + "]".repeat(40), "[".repeat(40) + "2" + "]".repeat(40), false);
-        same("{\"a\":".repeat(40) + "[".repeat(0) + "1" + "}".repeat(40), "{\"a\":".repeat(40) + "2" + "}".repeat(40), false);
+        same("{\"a\":".repeat(40) + "1" + "}".repeat(40), "{\"a\":".repeat(40) + "2" + "}".repeat(40), false);
     }
 
     private static void checkSameInside() {

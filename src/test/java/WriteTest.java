@@ -48,6 +48,7 @@ public final class WriteTest {
         writtenAlike(" [ ] ", "[]");
         writtenAlike("[ 1 , [ \"a\" , null ] , { } ]", "[1,[\"a\",null],{}]");
         writtenAlike("[".repeat(40) + "0" + "]".repeat(40), "[".repeat(40) + "0" + "]".repeat(40));
+        writtenAlike("{\"a\" :".repeat(40) + "0" + "}".repeat(40), "{\"a\":".repeat(40) + "0" + "}".repeat(40));
     }
 
     private static void checkOrder() {

@@ -140,6 +140,9 @@ public final class WrongTest {
         bad("\"a\\ud800", 2);
         bad("\"a\\ud800x\"", 2);
         bad("\"a\\ud800\\n\"", 2);
+        bad("\"a\\ud800\\xdc00\"", 2);
+        bad("\"a\\ud800xudc00\"", 2);
+        bad("\"a\\udc00\\udc00\"", 2);
         bad("\"a\\ud800\\x\"", 2);
         bad("\"a\\ud800\\u\"", 2);
         bad("\"a\\ud800\\udc0\"", 2);
