@@ -51,10 +51,7 @@ public final class JsonTwin {
         if (n < 0 || n > MOST_OCTETS || n > fedCount) {
             throw new IndexOutOfBoundsException();
         }
-        if (!isTextNumber(t)) {
-            throw new IllegalArgumentException();
-        }
-        Text text = textAt(t);
+        Text text = textNumbered(t);
         fedCount = 0;
         fault = new Reader(fed, n, text).take();
         if (fault != NONE) {
@@ -68,49 +65,37 @@ public final class JsonTwin {
     }
 
     public int value(int t, int v, int what) throws IllegalArgumentException, IndexOutOfBoundsException {
-        if (!isTextNumber(t) || what < 0 || what > LAST_FACT) {
+        if (what < 0 || what > LAST_FACT) {
             throw new IllegalArgumentException();
         }
-        Text text = textAt(t);
-        if (!text.has(v)) {
-            throw new IndexOutOfBoundsException();
-        }
+        Text text = textNumbered(t);
+        needValue(text, v);
         return text.fact(v, what);
     }
 
     public int letter(int t, int v, int k) throws IllegalArgumentException, IndexOutOfBoundsException {
-        if (!isTextNumber(t)) {
-            throw new IllegalArgumentException();
-        }
-        Text text = textAt(t);
-        if (!text.has(v) || !text.hasLetter(v, k)) {
+        Text text = textNumbered(t);
+        needValue(text, v);
+        if (!text.hasLetter(v, k)) {
             throw new IndexOutOfBoundsException();
         }
         return text.letterOf(v, k);
     }
 
     public boolean same(int t, int v, int u, int w) throws IllegalArgumentException, IndexOutOfBoundsException {
-        if (!isTextNumber(t) || !isTextNumber(u)) {
-            throw new IllegalArgumentException();
-        }
-        Text one = textAt(t);
-        Text other = textAt(u);
-        if (!one.has(v) || !other.has(w)) {
-            throw new IndexOutOfBoundsException();
-        }
+        Text one = textNumbered(t);
+        Text other = textNumbered(u);
+        needValue(one, v);
+        needValue(other, w);
         return Likeness.areAlike(one, v, other, w, 0);
     }
 
     public int compare(int t, int v, int u, int w)
             throws IllegalArgumentException, IndexOutOfBoundsException, UnsupportedOperationException {
-        if (!isTextNumber(t) || !isTextNumber(u)) {
-            throw new IllegalArgumentException();
-        }
-        Text one = textAt(t);
-        Text other = textAt(u);
-        if (!one.has(v) || !other.has(w)) {
-            throw new IndexOutOfBoundsException();
-        }
+        Text one = textNumbered(t);
+        Text other = textNumbered(u);
+        needValue(one, v);
+        needValue(other, w);
         if (one.kinds[v] != NUMBER || other.kinds[w] != NUMBER) {
             throw new UnsupportedOperationException();
         }
@@ -121,21 +106,17 @@ public final class JsonTwin {
         if (n < 0 || n > fedCount) {
             throw new IndexOutOfBoundsException();
         }
-        if (!isTextNumber(t) || !textAt(t).has(0)) {
+        Text text = textNumbered(t);
+        if (!text.has(0)) {
             throw new IllegalArgumentException();
         }
         fedCount = 0;
-        return new Path(fed, n, textAt(t)).find();
+        return new Path(fed, n, text).find();
     }
 
     public int write(int t, int v) throws IllegalArgumentException, IndexOutOfBoundsException {
-        if (!isTextNumber(t)) {
-            throw new IllegalArgumentException();
-        }
-        Text text = textAt(t);
-        if (!text.has(v)) {
-            throw new IndexOutOfBoundsException();
-        }
+        Text text = textNumbered(t);
+        needValue(text, v);
         return writer.putAll(text, v);
     }
 
@@ -168,12 +149,17 @@ public final class JsonTwin {
         }
     }
 
-    private static boolean isTextNumber(int t) {
-        return t == 0 || t == 1;
+    private Text textNumbered(int t) throws IllegalArgumentException {
+        if (t != 0 && t != 1) {
+            throw new IllegalArgumentException();
+        }
+        return t == 0 ? firstText : secondText;
     }
 
-    private Text textAt(int t) {
-        return t == 0 ? firstText : secondText;
+    private static void needValue(Text text, int v) throws IndexOutOfBoundsException {
+        if (!text.has(v)) {
+            throw new IndexOutOfBoundsException();
+        }
     }
 
     /** The VALUES of one TEXT, a row for each fact about them; without VALUES there is no TEXT. */
@@ -429,9 +415,9 @@ public final class JsonTwin {
                 case STRING:
                     return takeString(v);
                 case ARRAY:
-                    return takeArray(v, depth);
+                    return takeParts(v, ']', depth);
                 default:
-                    return takeObject(v, depth);
+                    return takeParts(v, '}', depth);
             }
         }
 
@@ -638,57 +624,33 @@ public final class JsonTwin {
             return octet >= 'A' && octet <= 'F' ? octet - 'A' + 10 : NONE;
         }
 
-        private boolean takeArray(int v, int depth) {
+        /** The parts of an ARRAY, or the MEMBERS of an OBJECT, up to the mark that closes it. */
+        private boolean takeParts(int v, int close, int depth) {
             at++;
             skipBlanks();
-            if (octetAt(at) == ']') {
+            if (octetAt(at) == close) {
                 at++;
                 return true;
             }
             int last = NONE;
             for (int i = 0; i < MOST_PARTS; i++) {
                 int part = text.values;
-                if (!takeValue(v, depth + 1)) {
+                // A MEMBER has no method of its own, so that its characters are not one call deeper.
+                boolean taken = close == ']'
+                        ? takeValue(v, depth + 1)
+                        : openName(v) && takeString(part) && closeName(v, part) && takeNamed(v, part, depth);
+                if (!taken) {
                     return false;
                 }
                 text.addPart(v, last, part);
                 last = part;
                 skipBlanks();
                 int mark = octetAt(at);
-                if (mark != ']' && mark != ',') {
+                if (mark != close && mark != ',') {
                     return refuse(at);
                 }
                 at++;
-                if (mark == ']') {
-                    return true;
-                }
-                skipBlanks();
-            }
-            return refuse(at);
-        }
-
-        private boolean takeObject(int v, int depth) {
-            at++;
-            skipBlanks();
-            if (octetAt(at) == '}') {
-                at++;
-                return true;
-            }
-            int last = NONE;
-            for (int i = 0; i < MOST_PARTS; i++) {
-                int name = text.values;
-                if (!openName(v) || !takeString(name) || !closeName(v, name) || !takeNamed(v, name, depth)) {
-                    return false;
-                }
-                text.addPart(v, last, name);
-                last = name;
-                skipBlanks();
-                int mark = octetAt(at);
-                if (mark != '}' && mark != ',') {
-                    return refuse(at);
-                }
-                at++;
-                if (mark == '}') {
+                if (mark == close) {
                     return true;
                 }
                 skipBlanks();
