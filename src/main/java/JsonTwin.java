@@ -615,7 +615,8 @@ public final class JsonTwin {
         }
 
         private static int hexDigit(int octet) {
-            if (isDigit(octet)) {
+            // Not by isDigit: from read to here eight calls stand open already.
+            if (octet >= '0' && octet <= '9') {
                 return octet - '0';
             }
             if (octet >= 'a' && octet <= 'f') {

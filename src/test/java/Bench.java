@@ -8,7 +8,7 @@ final class Bench {
 
     private static int failures = 0;
 
-    final JsonTwin twin = new JsonTwin();
+    final Counted twin = new Counted();
 
     /** A new one that has read the text as TEXT 0. */
     static Bench of(String text) {
@@ -29,17 +29,7 @@ final class Bench {
     }
 
     void feed(String octets) {
-        for (int i = 0; i < octets.length(); i += 20) {
-            twin.feed(four(octets, i), four(octets, i + 4), four(octets, i + 8), four(octets, i + 12), four(octets, i + 16));
-        }
-    }
-
-    private static int four(String octets, int from) {
-        int four = 0;
-        for (int i = from; i < from + 4; i++) {
-            four = four << 8 | (i < octets.length() ? octets.charAt(i) : 0);
-        }
-        return four;
+        twin.feed(octets);
     }
 
     /** How many VALUES, or -1 if it is WRONG. */

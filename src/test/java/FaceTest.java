@@ -54,7 +54,7 @@ public final class FaceTest {
     }
 
     private static void checkNewObject() {
-        JsonTwin twin = new JsonTwin();
+        Counted twin = new Counted();
         for (int what = 0; what < 4; what++) {
             Bench.due("count " + what, twin.count(what), 0);
         }

@@ -9,7 +9,7 @@ public final class FeedReadTest {
     }
 
     private static void checkFeed() {
-        JsonTwin twin = new JsonTwin();
+        Counted twin = new Counted();
         // The octets of "[1,2,3,4,5,6,7,8,9]" and a blank, four in each number.
         Bench.due("feed", twin.feed(0x5B312C32, 0x2C332C34, 0x2C352C36, 0x2C372C38, 0x2C395D20), 20);
         Bench.due("read", twin.read(0, 20), 10);
@@ -24,7 +24,7 @@ public final class FeedReadTest {
 
     private static void checkReadRefuses() {
         Bench bench = Bench.of("[1,2]");
-        JsonTwin twin = bench.twin;
+        Counted twin = bench.twin;
         bench.read(1, "x");
         Bench.due("wrong", twin.wrong(), 0);
         bench.feed("null");
@@ -53,7 +53,7 @@ public final class FeedReadTest {
 
     private static void checkReadReplaces() {
         Bench bench = Bench.of("[1,2]", "[3]");
-        JsonTwin twin = bench.twin;
+        Counted twin = bench.twin;
         Bench.due("read", bench.read(0, "\"abc\""), 1);
         Bench.due("first TEXT", bench.write(0, 0), "\"abc\"");
         Bench.due("second TEXT stays", bench.write(1, 0), "[3]");
@@ -98,7 +98,7 @@ public final class FeedReadTest {
 
     private static void checkCount() {
         Bench bench = Bench.of("[1,2]", "{\"a\":7,\"b\":[8,9]}");
-        JsonTwin twin = bench.twin;
+        Counted twin = bench.twin;
         bench.feed("x".repeat(21));
         twin.write(1, 0);
         Bench.due("count 0", twin.count(0), 3);

@@ -128,7 +128,7 @@ public final class PointerTest {
 
     private static void checkRefusals() {
         Bench bench = Bench.of("{\"a\":1}");
-        JsonTwin twin = bench.twin;
+        Counted twin = bench.twin;
         bench.feed("/a");
         Bench.due("n below 0", () -> twin.pointer(0, -1), Bench.INDEX);
         Bench.due("n least", () -> twin.pointer(0, Integer.MIN_VALUE), Bench.INDEX);

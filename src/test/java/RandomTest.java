@@ -46,13 +46,16 @@ public final class RandomTest {
         RandomTest test = new RandomTest(seed);
         Node tree = test.tree(1 + seed % 5);
         test.print(tree, -1, "");
-        Bench bench = Bench.of(test.text.toString());
-        Bench.due("count, seed " + seed, bench.twin.count(0), test.nodes.size());
+        Bench.due("count, seed " + seed, test.bench().twin.count(0), test.nodes.size());
         for (Node node : test.nodes) {
-            test.checkNode(bench, node, "seed " + seed + ", VALUE " + node.id + ": ");
+            test.checkNode(test.bench(), node, "seed " + seed + ", VALUE " + node.id + ": ");
         }
-        test.checkPairs(bench, seed);
-        test.checkTwin(bench, tree, seed);
+        test.checkPairs(test.bench(), seed);
+        test.checkTwin(tree, seed);
+    }
+
+    private Bench bench() {
+        return Bench.of(text.toString());
     }
 
     private Node tree(int depth) {
@@ -199,7 +202,7 @@ public final class RandomTest {
     }
 
     private void checkNode(Bench bench, Node node, String what) {
-        JsonTwin twin = bench.twin;
+        Counted twin = bench.twin;
         List<Node> row = node.kind == JsonTwin.OBJECT ? node.names : node.parts;
         Bench.due(what + "kind", twin.value(0, node.id, 0), node.kind);
         Bench.due(what + "begin", twin.value(0, node.id, 1), node.begin);
@@ -227,7 +230,7 @@ public final class RandomTest {
             Bench.due(what + "EXPONENT", twin.value(0, node.id, 4), zero ? 0 : -bare.scale());
             Bench.due(what + "sign", twin.value(0, node.id, 5), bare.signum() < 0 ? 1 : 0);
         }
-        Bench.due(what + "WRITTEN", bench.write(0, node.id), canonical(node));
+        Bench.due(what + "WRITTEN", Run.NEW.read(0, text.toString()).write(0, node.id).written(), canonical(node));
         if (node.path != null) {
             Bench.due(what + "pointer " + node.path, bench.pointer(0, node.path), node.id);
         }
@@ -246,13 +249,14 @@ public final class RandomTest {
     }
 
     /** The same tree, printed in another way and with its members in another order. */
-    private void checkTwin(Bench bench, Node tree, int seed) {
+    private void checkTwin(Node tree, int seed) {
         RandomTest other = new RandomTest(~seed);
         shuffle(tree, other.chance);
         other.print(tree, -1, "");
-        Bench.due("read of the twin, seed " + seed, bench.read(1, other.text.toString()), other.nodes.size());
-        Bench.due("twins are THE SAME, seed " + seed, bench.twin.same(0, 0, 1, 0), true);
-        Bench.due("twins are WRITTEN the same, seed " + seed, bench.write(1, 0), bench.write(0, 0));
+        Run both = Run.NEW.read(0, text.toString()).read(1, other.text.toString());
+        both.takes("VALUES of the twin, seed " + seed, twin -> twin.count(1), other.nodes.size());
+        both.takes("twins are THE SAME, seed " + seed, twin -> twin.same(0, 0, 1, 0), true);
+        Bench.due("twins are WRITTEN the same, seed " + seed, both.write(1, 0).written(), both.write(0, 0).written());
     }
 
     private static void shuffle(Node node, Random chance) {

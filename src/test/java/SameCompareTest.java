@@ -9,7 +9,7 @@ public final class SameCompareTest {
     }
 
     private static void same(String one, String other, boolean due) {
-        JsonTwin twin = Bench.of(one, other).twin;
+        Counted twin = Bench.of(one, other).twin;
         Bench.due(one + " same " + other, twin.same(0, 0, 1, 0), due);
         Bench.due(other + " same " + one, twin.same(1, 0, 0, 0), due);
         Bench.due(one + " same itself", twin.same(0, 0, 0, 0), true);
@@ -41,7 +41,7 @@ public final class SameCompareTest {
     }
 
     private static void checkSameInside() {
-        JsonTwin twin = Bench.of("{\"a\":\"a\",\"b\":[1,[1]]}", "[\"a\",1.0,[1]]").twin;
+        Counted twin = Bench.of("{\"a\":\"a\",\"b\":[1,[1]]}", "[\"a\",1.0,[1]]").twin;
         Bench.due("NAME and STRING", twin.same(0, 1, 0, 2), true);
         Bench.due("NAME and STRING of the other", twin.same(0, 1, 1, 1), true);
         Bench.due("NUMBERS", twin.same(0, 5, 1, 2), true);
@@ -55,11 +55,11 @@ public final class SameCompareTest {
             "1e-3", "0.5", "0.51", "1", "1.0001", "9", "9.9", "10", "11", "99", "100", "1e3", "123456789012345678901234567890", "1e999", "10e999"};
         for (int i = 0; i < rising.length; i++) {
             for (int k = 0; k < rising.length; k++) {
-                JsonTwin twin = Bench.of(rising[i], rising[k]).twin;
+                Counted twin = Bench.of(rising[i], rising[k]).twin;
                 Bench.due(rising[i] + " compare " + rising[k], twin.compare(0, 0, 1, 0), Integer.compare(i, k));
             }
         }
-        JsonTwin twin = Bench.of("[-0,0.0e9,5,50e-1,0.05E2]").twin;
+        Counted twin = Bench.of("[-0,0.0e9,5,50e-1,0.05E2]").twin;
         Bench.due("zeros", twin.compare(0, 1, 0, 2), 0);
         Bench.due("fives", twin.compare(0, 3, 0, 4), 0);
         Bench.due("fives", twin.compare(0, 5, 0, 3), 0);
@@ -68,7 +68,7 @@ public final class SameCompareTest {
     }
 
     private static void checkRefusals() {
-        JsonTwin twin = Bench.of("[1,\"1\"]").twin;
+        Counted twin = Bench.of("[1,\"1\"]").twin;
         int[] noTexts = {-1, 2, Integer.MIN_VALUE, Integer.MAX_VALUE};
         for (int t : noTexts) {
             Bench.due("same of " + t, () -> twin.same(t, 0, 0, 0), Bench.ARGUMENT);

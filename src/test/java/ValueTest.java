@@ -10,7 +10,7 @@ public final class ValueTest {
         Bench.end();
     }
 
-    private static String facts(JsonTwin twin, int t, int v) {
+    private static String facts(Counted twin, int t, int v) {
         int[] facts = new int[8];
         for (int what = 0; what < 8; what++) {
             facts[what] = twin.value(t, v, what);
@@ -20,7 +20,7 @@ public final class ValueTest {
 
     private static void checkFacts() {
         String text = " {\"b\": [null, true,\"xy\\n\"] ,\"a\":{\"\":-0.50},\"c\":[],\"d\":{},\"e\":false} ";
-        JsonTwin twin = Bench.of("0", text).twin;
+        Counted twin = Bench.of("0", text).twin;
         // kind, where it begins, in which, how many, EXPONENT, sign, first, next
         String[] due = {
             "[6, 1, -1, 5, 0, 0, 1, -1]",
@@ -49,7 +49,7 @@ public final class ValueTest {
 
     /** DIGITS, EXPONENT and sign of a NUMBER. */
     private static void number(String text, String digits, int exponent, int sign) {
-        JsonTwin twin = Bench.of(text).twin;
+        Counted twin = Bench.of(text).twin;
         StringBuilder seen = new StringBuilder();
         for (int k = 0; k < twin.value(0, 0, 3); k++) {
             seen.append(twin.letter(0, 0, k));
@@ -83,7 +83,7 @@ public final class ValueTest {
 
     private static void checkLetters() {
         String characters = "A" + Bench.utf8("\177\u00E9\u20AC\uD83D\uDE00") + "\\u0000\\u00fF\\uD83D\\uDE01\\\"\\\\\\/\\b\\f\\n\\r\\t";
-        JsonTwin twin = Bench.of("{\"" + characters + "\":-50.6}").twin;
+        Counted twin = Bench.of("{\"" + characters + "\":-50.6}").twin;
         int[] due = {'A', 127, 0xE9, 0x20AC, 0x1F600, 0, 255, 0x1F601, 34, 92, '/', 8, 12, 10, 13, 9};
         Bench.due("characters", twin.value(0, 1, 3), due.length);
         for (int k = 0; k < due.length; k++) {
@@ -96,7 +96,7 @@ public final class ValueTest {
         Bench.due("behind the characters", () -> twin.letter(0, 1, due.length), Bench.INDEX);
         Bench.due("before the characters", () -> twin.letter(0, 1, -1), Bench.INDEX);
         Bench.due("of an OBJECT", () -> twin.letter(0, 0, 0), Bench.INDEX);
-        JsonTwin others = Bench.of("[null,true,false,[1],\"\",0]").twin;
+        Counted others = Bench.of("[null,true,false,[1],\"\",0]").twin;
         for (int v = 0; v < others.count(0); v++) {
             int value = v;
             Bench.due("of VALUE " + v, () -> others.letter(0, value, 0), v == 5 ? "1" : Bench.INDEX);
@@ -104,7 +104,7 @@ public final class ValueTest {
     }
 
     private static void checkRefusals() {
-        JsonTwin twin = Bench.of("[1]").twin;
+        Counted twin = Bench.of("[1]").twin;
         int[] noTexts = {-1, 2, Integer.MIN_VALUE, Integer.MAX_VALUE};
         for (int t : noTexts) {
             Bench.due("value of TEXT " + t, () -> twin.value(t, 0, 0), Bench.ARGUMENT);

@@ -10,9 +10,9 @@ public final class WriteTest {
     }
 
     private static void written(String text, String due) {
-        Bench bench = Bench.of("0", text);
-        Bench.due("WRITTEN " + text, bench.write(1, 0), due);
-        Bench.due("count of " + text, bench.twin.count(3), due.length());
+        Run run = Run.NEW.read(0, "0").read(1, text).write(1, 0);
+        Bench.due("WRITTEN " + text, run.written(), due);
+        Bench.due("count of " + text, run.number(twin -> twin.count(3)), due.length());
     }
 
     /** What is WRITTEN can be read again, but for an EXPONENT of four digits. */
@@ -81,7 +81,7 @@ public final class WriteTest {
 
     private static void checkOctets() {
         Bench bench = Bench.of("\"abcdefgh\\ud83d\\ude00\"", "[1,\"23456\"]");
-        JsonTwin twin = bench.twin;
+        Counted twin = bench.twin;
         Bench.due("size", twin.write(0, 0), 14);
         Bench.due("octets 0", twin.octets(0), 0x2261626364656667L);
         Bench.due("octets 1", twin.octets(1), 0x68F09F9880220000L);
@@ -106,7 +106,7 @@ public final class WriteTest {
 
     private static void checkRefusals() {
         Bench bench = Bench.of("{\"a\":[1]}");
-        JsonTwin twin = bench.twin;
+        Counted twin = bench.twin;
         Bench.due("NAME", bench.write(0, 1), "\"a\"");
         int[] noTexts = {-1, 2, Integer.MIN_VALUE, Integer.MAX_VALUE};
         for (int t : noTexts) {
