@@ -25,6 +25,12 @@ public final class JsonTwin {
     private static final int FIRST_LOW = 0xDC00;
     private static final int LAST_LOW = 0xDFFF;
 
+    // Rows of characters, for a text might count as a new one each time that it is used; a write may use thousands.
+    private static final char[] NULL_WORD = {'n', 'u', 'l', 'l'};
+    private static final char[] FALSE_WORD = {'f', 'a', 'l', 's', 'e'};
+    private static final char[] TRUE_WORD = {'t', 'r', 'u', 'e'};
+    private static final char[] FRONT_OF_ESCAPED = {'\\', 'u', '0', '0'};
+
     private final byte[] fed = new byte[MOST_FED];
     private final Text firstText = new Text();
     private final Text secondText = new Text();
@@ -87,7 +93,7 @@ public final class JsonTwin {
         Text other = textNumbered(u);
         needValue(one, v);
         needValue(other, w);
-        return Likeness.areAlike(one, v, other, w, 0);
+        return Likeness.areTwins(one, v, other, w);
     }
 
     public int compare(int t, int v, int u, int w)
@@ -405,11 +411,11 @@ public final class JsonTwin {
             int v = text.open(kind, at, holder);
             switch (kind) {
                 case NULL:
-                    return takeWord("null");
+                    return takeWord(NULL_WORD);
                 case FALSE:
-                    return takeWord("false");
+                    return takeWord(FALSE_WORD);
                 case TRUE:
-                    return takeWord("true");
+                    return takeWord(TRUE_WORD);
                 case NUMBER:
                     return takeNumber(v);
                 case STRING:
@@ -421,9 +427,9 @@ public final class JsonTwin {
             }
         }
 
-        private boolean takeWord(String word) {
-            for (int i = 0; i < word.length(); i++) {
-                if (octetAt(at) != word.charAt(i)) {
+        private boolean takeWord(char[] word) {
+            for (char letter : word) {
+                if (octetAt(at) != letter) {
                     return refuse(at);
                 }
                 at++;
@@ -731,7 +737,11 @@ public final class JsonTwin {
 
     /** Whether VALUES are THE SAME, and which NUMBER is less. */
     private static final class Likeness {
-        static boolean areAlike(Text one, int v, Text other, int w, int depth) {
+        static boolean areTwins(Text one, int v, Text other, int w) {
+            return areAlike(one, v, other, w, 0);
+        }
+
+        private static boolean areAlike(Text one, int v, Text other, int w, int depth) {
             int kind = one.kinds[v];
             boolean unlike = kind != other.kinds[w] || one.sizes[v] != other.sizes[w];
             if (unlike || depth > MOST_DEPTH) {
@@ -923,9 +933,9 @@ public final class JsonTwin {
             }
         }
 
-        private void putWord(String word) {
-            for (int i = 0; i < word.length(); i++) {
-                put(word.charAt(i));
+        private void putWord(char[] word) {
+            for (char letter : word) {
+                put(letter);
             }
         }
 
@@ -935,13 +945,13 @@ public final class JsonTwin {
             }
             switch (text.kinds[v]) {
                 case NULL:
-                    putWord("null");
+                    putWord(NULL_WORD);
                     break;
                 case FALSE:
-                    putWord("false");
+                    putWord(FALSE_WORD);
                     break;
                 case TRUE:
-                    putWord("true");
+                    putWord(TRUE_WORD);
                     break;
                 case NUMBER:
                     putNumber(text, v);
@@ -998,7 +1008,7 @@ public final class JsonTwin {
 
         private void putCharacter(int character) {
             if (character < 32) {
-                putWord("\\u00");
+                putWord(FRONT_OF_ESCAPED);
                 put('0' + (character >> 4));
                 put((character & 15) < 10 ? '0' + (character & 15) : 'a' - 10 + (character & 15));
                 return;
